@@ -18,7 +18,7 @@ public final class FirstCart {
     private static final int HOURS = 12, LAST_HOUR = 11, MOST_PATIENCE = 11, FORMING = 3;
     private static final int MOST_ACTS = 24, MOST_ROUNDS = 20, MOST_DAYS = 30;
     private static final int MOST_FORD_HOURS = 3, HUNDRED = 100, IMAGES = 2;
-    private static final int NOBODY = -1;
+    private static final int NOBODY = -1, ABOVE_ANY_COST = 1000000;
 
     private static final int CART = 0, WAIT = 1, FORM = 2, BACK = 3, GO = 4, BLIND = 5, KINDS = 6;
     /** The KIND that a KIND is, too: the nearest one. */
@@ -901,7 +901,7 @@ public final class FirstCart {
         boolean takeBest(int cart) {
             int before = day.patience[cart];
             int best = 0;
-            int least = Integer.MAX_VALUE;
+            int least = ABOVE_ANY_COST;
             for (int p = 0; p <= MOST_PATIENCE; p++) {
                 day.patience[cart] = p;
                 day.runDay();

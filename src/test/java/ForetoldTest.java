@@ -75,6 +75,8 @@ public final class ForetoldTest {
         x.set(0, 12, -2);
         D.due("no cart", x.judge(0, 1), Due.BAD);
         D.due("outside the twelve it may be", x.judge(0, 0), 1);
+        x.set(0, 0, 3);
+        D.due("no cart, at the first place", x.judge(0, 0), Due.BAD);
         D.due("no act", x.count(4), 0);
     }
 
@@ -143,9 +145,13 @@ public final class ForetoldTest {
         // The second one would rather pay 20 than lose an hour's 20: so the first one waits.
         D.due("the hour", x.two(0, 1, 4, 0), 4);
         D.due("who", x.two(0, 1, 4, 1), 1);
+        for (int h = 0; h < 11; h++) {
+            D.due("in each hour at once", x.two(0, 1, h, 0), h);
+            D.due("the second one", x.two(0, 1, h, 1), 1);
+        }
         D.due("in hour 11 the first one", x.two(0, 1, 11, 1), 0);
         D.due("the hour", x.two(0, 1, 11, 0), 11);
-        // One hour costs the second 19 only, two cost him more: he goes two hours ahead of the end.
+        // An hour costs the second one 19 only: he waits, as the first one goes in the next at the latest.
         D.due("hour 10", x.two(0, 4, 10, 1), 0);
         D.due("who in hour 9", x.two(0, 4, 9, 1), 0);
         D.due("haste 0 goes at once, of like ones", x.two(2, 0, 3, 0), 3);
@@ -159,6 +165,8 @@ public final class ForetoldTest {
         D.due("cart -1", x.two(-1, 0, 0, 0), Due.BAD);
         x = Due.with("90 0 1 1 1 1", "wait 0 3 0", "go 5 20 0");
         D.due("for nothing he goes at once", x.two(0, 1, 0, 1), 0);
+        x = Due.with("90 1 1 1 1 1", "wait 0 3 0", "go 5 1 0");
+        D.due("for 1 the first one waits", x.two(0, 1, 10, 1), 1);
     }
 
     private static void shares() {
@@ -214,6 +222,9 @@ public final class ForetoldTest {
         D.due("cart -1", x.book(-1, 1), Due.BAD);
         D.due("nothing changes: a day is as before", x.day(1, 2), 4);
         D.due("one book is apart from another", x.book(1, 1), 1);
+        x = Due.with("1 2 3 4 5 6", "go 0 0 0", "go 0 0 0");
+        D.due("in hour 0, too", x.book(0, 5), 3);
+        D.due("in hour 0, too", x.book(1, 5), 2);
     }
 
     private static void ford(FirstCart x, int p, int n, int above, int below) {

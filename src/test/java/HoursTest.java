@@ -213,6 +213,7 @@ public final class HoursTest {
         D.due("gone", x.count(3), 0);
         x.waits(0, 1);
         D.due("an image is apart from the pass", x.restore(1), 1);
+        D.due("the act is forgotten", x.count(4), 0);
         D.due("patience", x.cart(0, 2), 5);
         D.due("toll", x.shares(6, 0), 3);
     }

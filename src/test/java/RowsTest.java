@@ -112,6 +112,7 @@ public final class RowsTest {
         }
         D.due("copy all", x.copy(0, 0, 1, 0, 12), 12);
         D.due("as told", x.judge(1, 0), Due.NONE);
+        x.drop(7);
         D.due("to itself, on", x.copy(0, 0, 0, 2, 12), 12);
         D.due("status", x.status(), 0);
         D.due("as they were ahead", x.judge(0, 2), Due.NONE);
@@ -131,6 +132,7 @@ public final class RowsTest {
         D.due("status", x.status(), 1);
         x.row(0, 1, 17);
         x.row(1, 1, 0);
+        x.drop(7);
         D.due("drop(0)", x.drop(0), 17);
         D.due("status", x.status(), 0);
         D.due("count of rows", x.count(0), 1);

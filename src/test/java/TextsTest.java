@@ -72,6 +72,9 @@ public final class TextsTest {
         fault(" \n ", 3, 1);
         fault("tol 1", 0, 1);
         fault("tolls 1", 0, 1);
+        fault("tollz 1", 0, 1);
+        fault("toll{1", 4, 1);
+        fault("toll`1", 4, 1);
         fault(" Toll", 1, 1);
         fault(";", 0, 1);
         fault("toll ;", 5, 1);
